@@ -178,7 +178,7 @@ public final class IslandSolver {
         if (n < 1 || n > MOST_STEPS) {
             throw new IllegalArgumentException("n is not 1 .. 20");
         }
-        // Islands and stiffnesses hang on nothing that a step changes: once is enough.
+        // What these hang on is changed by no step, so that once is enough.
         numberIslands();
         measureRows();
         for (int i = 0; i < n; i++) {
@@ -234,12 +234,14 @@ public final class IslandSolver {
     }
 
     public int count(int what) throws IndexOutOfBoundsException {
-        numberIslands();
         switch (what) {
             case 0: return bodies.size();
             case 1: return rows.size();
-            case 2: return islandCount;
+            case 2:
+                numberIslands();
+                return islandCount;
             case 3:
+                numberIslands();
                 markAwake();
                 return islandCount - awakeIslands();
             case 4: return sleepers();
@@ -421,8 +423,8 @@ public final class IslandSolver {
         dealOutRows();
         for (int worker = workerCount - 1; worker >= 0; worker--) {
             solveRowsOf(worker);
-            settleBodiesOf(worker);
         }
+        settleBodies();
         if (still > 0) {
             markRestless();
             layToSleep();
@@ -475,10 +477,10 @@ public final class IslandSolver {
         }
     }
 
-    private void settleBodiesOf(int worker) {
+    private void settleBodies() {
         for (int i = 0; i < bodies.size(); i++) {
             Body body = bodies.get(i);
-            if (workerOn(body.island) == worker) {
+            if (workerOn(body.island) != NONE) {
                 body.settle(calm);
             }
         }
@@ -506,6 +508,7 @@ public final class IslandSolver {
         }
     }
 
+    /** Changed in place, so that a step makes no objects. */
     private static final class Vec {
         float x;
         float y;
