@@ -49,17 +49,38 @@ final class Check {
         fails(what, IllegalStateException.class, solver, call);
     }
 
+    /** A call that is due to throw nothing. */
+    static void taken(String what, Call call) {
+        RuntimeException got = thrownBy(call);
+        that(what + " is refused by " + got, got == null);
+    }
+
     /** The very class is due, since the machine's own exceptions are below these; and that nothing changes. */
     private static void fails(String what, Class<?> due, IslandSolver solver, Call call) {
         String before = Worlds.picture(solver);
-        Class<?> got = null;
+        RuntimeException got = thrownBy(call);
+        that(what + " throws " + got + ", due is " + due, got != null && got.getClass() == due);
+        that(what + " is refused by the class itself", got != null && isThrownByTheClass(got));
+        same("the state behind " + what, Worlds.picture(solver), before);
+    }
+
+    private static RuntimeException thrownBy(Call call) {
         try {
             call.run();
+            return null;
         } catch (RuntimeException e) {
-            got = e.getClass();
+            return e;
         }
-        that(what + " throws " + got + ", due is " + due, got == due);
-        same("the state behind " + what, Worlds.picture(solver), before);
+    }
+
+    /** A list throws the same class as is due; the place tells that the index was not looked at before. */
+    static boolean isThrownByTheClass(RuntimeException e) {
+        return isThrownIn("IslandSolver", e);
+    }
+
+    static boolean isThrownIn(String name, RuntimeException e) {
+        StackTraceElement[] places = e.getStackTrace();
+        return places.length > 0 && places[0].getClassName().split("\\$")[0].equals(name);
     }
 
     /** The last line of a test's main method. */

@@ -3,6 +3,7 @@ public final class Promise02BodyTest {
     public static void main(String[] args) {
         makesBodies();
         takesTheEdges();
+        isMovableByOneNumberAlone();
         refusesWrongNumbers();
         refusesTheBodyBehindTheLast();
         Check.end();
@@ -36,6 +37,24 @@ public final class Promise02BodyTest {
         Check.same("the smallest W is movable", solver.about(2, 0), 1);
         Check.same("the smallest zz is movable", solver.about(3, 0), 2);
         Check.same("-0.0 is not movable", solver.about(4, 0), IslandSolver.NONE);
+    }
+
+    private static void isMovableByOneNumberAlone() {
+        for (float x : new float[] {Float.MIN_VALUE, 16}) {
+            IslandSolver solver = new IslandSolver();
+            solver.body(x, 0, 0, 0);
+            solver.body(0, x, 0, 0);
+            solver.body(0, 0, x, 0);
+            solver.body(0, 0, 0, x);
+            solver.body(0, 0, 0, 0);
+            solver.lean(4, 4, 4, 4);
+            for (int i = 0; i < 4; i++) {
+                Check.same("movable by number " + i + ", " + x, solver.about(i, 0), i);
+            }
+            Check.same("leaning makes nothing movable", solver.about(4, 0), IslandSolver.NONE);
+            Check.same("gain of it", solver.gain(4, 4, 1, 1, 1), 0);
+            Check.same("islands", solver.count(2), 4);
+        }
     }
 
     private static void refusesWrongNumbers() {

@@ -1,8 +1,11 @@
 /** Promise 12: workers. */
 public final class Promise12WorkersTest {
+    private static final int NONE = IslandSolver.NONE;
+
     public static void main(String[] args) {
         tellsHowManyThereWere();
         changesNothing();
+        changesNothingForFewOrManyIslands();
         refusesWrongNumbers();
         Check.end();
     }
@@ -50,6 +53,30 @@ public final class Promise12WorkersTest {
         String due = islandsWith(1);
         for (int workers = 2; workers <= 8; workers++) {
             Check.same("islands with " + workers + " workers", islandsWith(workers), due);
+        }
+    }
+
+    /** Pairs of bodies, each an island; every third one sleeps and is not dealt out. */
+    private static String pairs(int islands, int workers) {
+        IslandSolver solver = Worlds.sleepers(2 * islands);
+        solver.workers(workers);
+        for (int i = 0; i < islands; i++) {
+            Worlds.alongX(solver, 2 * i, 2 * i + 1, 0.3f * i, i);
+            Worlds.alongX(solver, 2 * i + 1, NONE, 0.7f, i);
+            if (i % 3 != 2) {
+                solver.set(2 * i, 0.1f * i, 9, 0, 0, 0, 0);
+            }
+        }
+        return solver.step(1) + "\n" + Worlds.picture(solver) + solver.step(2) + "\n" + Worlds.picture(solver);
+    }
+
+    /** No island, fewer than workers, just as many, one more, and more than twice as many. */
+    private static void changesNothingForFewOrManyIslands() {
+        for (int islands : new int[] {0, 1, 2, 7, 8, 9, 11, 12, 13, 20}) {
+            String due = pairs(islands, 1);
+            for (int workers = 2; workers <= 8; workers++) {
+                Check.same(islands + " islands with " + workers + " workers", pairs(islands, workers), due);
+            }
         }
     }
 

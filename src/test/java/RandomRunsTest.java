@@ -291,7 +291,8 @@ public final class RandomRunsTest {
             return asked.give();
         } catch (RuntimeException e) {
             threw++;
-            return e.getClass().getName();
+            boolean byThrow = Check.isThrownByTheClass(e) || Check.isThrownIn("PlainModel", e);
+            return byThrow ? e.getClass().getName() : "the machine's " + e;
         }
     }
 
