@@ -4,6 +4,7 @@ public final class Promise15AboutTest {
 
     public static void main(String[] args) {
         numbersIslands();
+        isNotJoinedByWhatIsNotMovable();
         joinsChainsInAnyOrder();
         countsRows();
         tellsSleepAndQuiet();
@@ -42,6 +43,29 @@ public final class Promise15AboutTest {
         islands("5 and 0", solver, 0, NONE, 0, 1, NONE, 0, 0);
         solver.clear();
         islands("cleared", solver, 0, NONE, 1, 2, NONE, 3, 4);
+    }
+
+    /** Two bodies that have rows with the same floor, on either side of a row, or with NONE. */
+    private static void isNotJoinedByWhatIsNotMovable() {
+        int[][] sides = {{0, 1}, {1, 0}};
+        for (int[] side : sides) {
+            IslandSolver solver = new IslandSolver();
+            solver.body(0, 0, 0, 0);
+            solver.body(1, 0, 0, 0);
+            solver.body(0, 0, 0, 1);
+            for (int i = 1; i <= 2; i++) {
+                int[] pair = {i, 0};
+                Worlds.alongX(solver, pair[side[0]], pair[side[1]], 0, 0);
+                Worlds.alongX(solver, i, NONE, 0, 0);
+            }
+            islands("on one floor", solver, NONE, 0, 1);
+            Check.same("rows of the floor", solver.about(0, 3), 2);
+            solver.settings(8, 1, 1, 1);
+            solver.set(2, 9, 0, 0, 0, 9, 0);
+            Check.same("one sleeps, the other does not", solver.step(1), 1);
+            Check.same("the one that sleeps", solver.about(1, 1), 1);
+            Check.same("the floor never sleeps", solver.about(0, 1), 0);
+        }
     }
 
     private static void joinsChainsInAnyOrder() {
