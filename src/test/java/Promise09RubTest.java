@@ -4,6 +4,7 @@ public final class Promise09RubTest {
 
     public static void main(String[] args) {
         holdsWithinFriction();
+        hasNoSoftness();
         rubsAtNothingBelowZero();
         beginsWithTheKeptImpulse();
         refusesWrongBodiesAndRows();
@@ -43,6 +44,21 @@ public final class Promise09RubTest {
         solver = sliding(3, 0);
         solver.step(1);
         Check.same("without friction", solver.of(0, 0), 3.0f);
+    }
+
+    /** Also if the row that it rubs at has one. */
+    private static void hasNoSoftness() {
+        IslandSolver solver = Worlds.points(1);
+        solver.set(0, 3, -8, 0, 0, 0, 0);
+        solver.vector(0, 0, 1, 0);
+        solver.row(0, NONE, 0, 3, 0, 100, 1);
+        solver.vector(0, 1, 0, 0);
+        solver.rub(0, NONE, 0, 0, 8, 2);
+        Check.same("stiffness of the row", solver.ofRow(0, 2), 4.0f);
+        Check.same("stiffness of the one that rubs", solver.ofRow(1, 2), 1.0f);
+        solver.step(1);
+        Check.same("the row gives way", solver.of(0, 1), -6.0f);
+        Check.same("the one that rubs does not", solver.of(0, 0), 0.0f);
     }
 
     private static void rubsAtNothingBelowZero() {
